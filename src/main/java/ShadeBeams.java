@@ -60,7 +60,6 @@ public final class ShadeBeams {
     private final DayRun trialRun = new DayRun();
     private final Carrier carrier = new Carrier();
     private final Lamplighter lamplighter = new Lamplighter();
-    private final int[] wholeByMoon = new int[MOONS + 1];
     private Street now = new Street();
     private Street draft = new Street();
     private int today;
@@ -295,14 +294,10 @@ public final class ShadeBeams {
         needWhat(what, 1);
         prepareTrial();
         lamplighter.gather(trialGround, now.beams, moveLines, reach);
-        int more = fewestLamps(beams);
-        return more == NONE || what == 0 ? more : lamplighter.digits(more);
-    }
-
-    private int fewestLamps(int beams) {
+        lamplighter.demand(trialGround, now.beams, moveLines, beams);
         for (int more = 0; more <= MORE_LAMPS; more++) {
             if (findLamps(beams, more, 0, 0, now.lampCells)) {
-                return more;
+                return what == 0 ? more : lamplighter.digits(more);
             }
         }
         return NONE;
@@ -311,6 +306,9 @@ public final class ShadeBeams {
     /** Goes at most MORE_LAMPS deep: one level for each lamp that is still to be put. */
     private boolean findLamps(int beams, int more, int put, int first, long lit) {
         if (put >= more || put >= MORE_LAMPS) {
+            if (!lamplighter.allows(lit)) {
+                return false;
+            }
             trialGround.lampCells = lit;
             trialRun.go(trialGround, now.beams, moveLines, beams);
             return (trialRun.fallenBits & beams) == 0;
@@ -419,38 +417,41 @@ public final class ShadeBeams {
         needDay(from);
         needDay(to);
         need(from <= to);
-        Arrays.fill(wholeByMoon, NONE);
+        int wholeKinds = wholeKinds();
         int number = 0;
         for (int day = from; day <= to; day++) {
-            if (isWhole(day)) {
-                number++;
-            }
+            number += wholeKinds >> kindOf(day) & 1;
         }
         return number;
     }
 
     public int next(int day) throws IllegalArgumentException {
         needDay(day);
-        Arrays.fill(wholeByMoon, NONE);
+        int wholeKinds = wholeKinds();
         for (int d = day; d < DAYS; d++) {
-            if (isWhole(d)) {
+            if ((wholeKinds >> kindOf(d) & 1) == 1) {
                 return d;
             }
         }
         return NONE;
     }
 
-    /** Days differ by their moon alone, so one day for each moon is gone through. */
-    private boolean isWhole(int day) {
-        int moon = now.moonOf(day);
-        int kind = moon + 1;
-        if (wholeByMoon[kind] == NONE) {
-            trialGround.takeStreet(now, law, moon);
+    /** Days differ by their moon alone: 0 those without one, then those of each moon. */
+    private int kindOf(int day) {
+        return now.moonOf(day) + 1;
+    }
+
+    private int wholeKinds() {
+        int kinds = 0;
+        for (int kind = 0; kind <= now.moons; kind++) {
+            trialGround.takeStreet(now, law, kind - 1);
             trialGround.settle(now.cloudHours);
             trialRun.go(trialGround, now.beams, moveLines, 0);
-            wholeByMoon[kind] = trialRun.fallenNumber == 0 ? 1 : 0;
+            if (trialRun.fallenNumber == 0) {
+                kinds |= 1 << kind;
+            }
         }
-        return wholeByMoon[kind] == 1;
+        return kinds;
     }
 
     public long odds(int beam, int from, int to, int q, int what)
@@ -891,43 +892,48 @@ public final class ShadeBeams {
             }
         }
 
-        private int here() {
-            return at >= 0 && at < end ? bytes[at] : NONE;
-        }
-
+        /** What is seen next becomes what was read last, so that a fault lies at it. */
         private void skipBlanks() {
-            while (at < end && here() == ' ') {
+            while (at < end && bytes[at] == ' ') {
                 at++;
             }
+            start = at;
+        }
+
+        private boolean isAt(char low, char high) {
+            return at < end && bytes[at] >= low && bytes[at] <= high;
         }
 
         boolean goesOn() {
+            if (faultKind != 0) {
+                return false;
+            }
             skipBlanks();
-            return faultKind == 0 && at < end;
+            return at < end;
         }
 
         boolean sees(char sign) {
+            if (faultKind != 0) {
+                return false;
+            }
             skipBlanks();
-            return faultKind == 0 && here() == sign;
+            return isAt(sign, sign);
         }
 
         boolean seesDigit() {
+            if (faultKind != 0) {
+                return false;
+            }
             skipBlanks();
-            return faultKind == 0 && isWithin(here(), '0', '9');
-        }
-
-        /** What is seen next becomes what was read last, so that a fault lies at it. */
-        void mark() {
-            skipBlanks();
-            start = at;
+            return isAt('0', '9');
         }
 
         void takeSign(char sign) {
             if (faultKind != 0) {
                 return;
             }
-            mark();
-            if (here() == sign) {
+            skipBlanks();
+            if (isAt(sign, sign)) {
                 at++;
             } else {
                 fail(OUT_OF_PLACE);
@@ -939,10 +945,10 @@ public final class ShadeBeams {
             if (faultKind != 0) {
                 return low;
             }
-            mark();
+            skipBlanks();
             int value = 0;
-            while (at < end && isWithin(here(), '0', '9')) {
-                value = Math.min(value * 10 + here() - '0', MORE_THAN_ALL);
+            while (isAt('0', '9')) {
+                value = Math.min(value * 10 + bytes[at] - '0', MORE_THAN_ALL);
                 at++;
             }
             if (at == start) {
@@ -960,8 +966,8 @@ public final class ShadeBeams {
             if (faultKind != 0) {
                 return;
             }
-            mark();
-            while (at < end && isWithin(here(), 'a', 'z')) {
+            skipBlanks();
+            while (isAt('a', 'z')) {
                 at++;
             }
         }
@@ -1016,7 +1022,7 @@ public final class ShadeBeams {
         }
 
         private boolean isCell(int beam, int at) {
-            return isWithin(beam, 0, BEAMS - 1) && isWithin(at, 0, LONGEST - 1);
+            return beam >= 0 && beam < BEAMS && at >= 0 && at < LONGEST;
         }
 
         int allOf(int beam) {
@@ -1039,8 +1045,8 @@ public final class ShadeBeams {
             long part = UNIT / steps;
             long left = 0;
             long right = 0;
-            for (int at = 0; at <= steps; at++) {
-                long weight = heavy[beam] + loadOn(beam, at);
+            for (int at = 0; at <= steps && at < LONGEST; at++) {
+                long weight = heavy[beam] + loads[beam * LONGEST + at];
                 left += weight * (steps - at);
                 right += weight * at;
             }
@@ -1328,7 +1334,6 @@ public final class ShadeBeams {
             steps = 0;
             readSum(text, 0);
             if (text.goesOn()) {
-                text.mark();
                 text.fail(OUT_OF_PLACE);
             }
         }
@@ -1354,49 +1359,37 @@ public final class ShadeBeams {
         }
 
         private void readUnit(Tape text, int open) {
+            if (text.failed()) {
+                return;
+            }
             if (text.seesDigit()) {
                 add(NUMBER, text.takeNumber(0, 999));
-            } else if (text.sees('(')) {
-                readBracket(text, open);
-            } else if (!text.failed()) {
-                readWord(text, open);
-            }
-        }
-
-        private void readBracket(Tape text, int open) {
-            text.mark();
-            if (open >= OPEN) {
-                text.fail(TOO_MANY);
                 return;
             }
-            text.takeSign('(');
-            readSum(text, open + 1);
-            text.takeSign(')');
-        }
-
-        private void readWord(Tape text, int open) {
-            text.takeWord();
-            int what = wordOf(text);
+            boolean bracket = text.sees('(');
+            int what = NUMBER;
+            if (!bracket) {
+                text.takeWord();
+                what = wordOf(text);
+            }
             if (what == UNKNOWN) {
                 text.fail(OUT_OF_PLACE);
-                return;
+            } else if (bracket || what >= LEAST) {
+                if (open >= OPEN) {
+                    text.fail(TOO_MANY);
+                    return;
+                }
+                text.takeSign(bracket ? '(' : '[');
+                readSum(text, open + 1);
+                if (!bracket) {
+                    text.takeSign(',');
+                    readSum(text, open + 1);
+                }
+                text.takeSign(bracket ? ')' : ']');
             }
-            if (what == LEAST || what == MOST) {
-                readPair(text, open);
+            if (!bracket) {
+                add(what, 0);
             }
-            add(what, 0);
-        }
-
-        private void readPair(Tape text, int open) {
-            if (open >= OPEN) {
-                text.fail(TOO_MANY);
-                return;
-            }
-            text.takeSign('[');
-            readSum(text, open + 1);
-            text.takeSign(',');
-            readSum(text, open + 1);
-            text.takeSign(']');
         }
 
         private static int wordOf(Tape text) {
@@ -1422,16 +1415,19 @@ public final class ShadeBeams {
             if (shades == 0) {
                 return 0;
             }
-            return Math.max(0, Math.min(SOLID, value(shades, tall, hour, lamp)));
-        }
-
-        private int value(int shades, int tall, int hour, int lamp) {
             int height = 0;
             for (int i = 0; i < steps; i++) {
-                if (step[i] >= PLUS) {
-                    if (height >= 2) {
-                        height--;
-                        stack[height - 1] = joined(step[i], stack[height - 1], stack[height]);
+                if (step[i] >= PLUS && height >= 2) {
+                    height--;
+                    int left = stack[height - 1];
+                    int right = stack[height];
+                    switch (step[i]) {
+                        case PLUS: stack[height - 1] = left + right; break;
+                        case MINUS: stack[height - 1] = left - right; break;
+                        case TIMES: stack[height - 1] = left * right; break;
+                        case BY: stack[height - 1] = right == 0 ? 0 : left / right; break;
+                        case LEAST: stack[height - 1] = left < right ? left : right; break;
+                        default: stack[height - 1] = left > right ? left : right; break;
                     }
                 } else if (height < LAW_BYTES) {
                     switch (step[i]) {
@@ -1444,18 +1440,8 @@ public final class ShadeBeams {
                     height++;
                 }
             }
-            return stack[0];
-        }
-
-        private static int joined(int sign, int left, int right) {
-            switch (sign) {
-                case PLUS: return left + right;
-                case MINUS: return left - right;
-                case TIMES: return left * right;
-                case BY: return right == 0 ? 0 : left / right;
-                case LEAST: return Math.min(left, right);
-                default: return Math.max(left, right);
-            }
+            int value = stack[0];
+            return value < 0 ? 0 : value > SOLID ? SOLID : value;
         }
     }
 
@@ -1517,7 +1503,7 @@ public final class ShadeBeams {
         private final int[] lightKind = new int[HOURS];
         private final int[] lightLong = new int[HOURS];
         private final int[] lightWay = new int[HOURS];
-        private final int[] clearShades = new int[HOURS * CELLS];
+        private final long[] clearShadow = new long[HOURS * POSTS];
         private final int[] shadesFrom = new int[HOURS];
         private final int[] known = new int[2 * HOURS * CELLS];
         private Law law;
@@ -1577,25 +1563,22 @@ public final class ShadeBeams {
         }
 
         void settle(int clouds) {
-            Arrays.fill(clearShades, 0);
             for (int hour = 0; hour < HOURS; hour++) {
                 for (int post = 0; post < posts; post++) {
-                    castShadow(post, hour);
+                    clearShadow[hour * POSTS + post] = shadowOf(post, hour);
                 }
             }
             cover(clouds);
         }
 
-        private void castShadow(int post, int hour) {
+        /** The cells on which the shadow lies without clouds, as bits. */
+        private long shadowOf(int post, int hour) {
             int length = postHigh[post] * lightLong[hour] / 10;
-            int way = lightWay[hour] == RIGHTWARD ? 1 : -1;
-            for (int off = 1; off <= length; off++) {
-                int cell = postX[post] + way * off;
-                if (cell < 0 || cell >= wide) {
-                    return;
-                }
-                clearShades[hour * CELLS + cell] |= 1 << post;
-            }
+            int x = postX[post];
+            boolean toRight = lightWay[hour] == RIGHTWARD;
+            int first = toRight ? x + 1 : Math.max(0, x - length);
+            int last = toRight ? Math.min(wide - 1, x + length) : x - 1;
+            return first > last ? 0 : (1L << last - first + 1) - 1 << first;
         }
 
         /** Shadows stay as they are without clouds; only the hour they are taken from changes. */
@@ -1619,6 +1602,7 @@ public final class ShadeBeams {
             return (lampCells >> cell & 1) == 1;
         }
 
+        /** The posts whose shadow lies on a cell, as bits. */
         int shadesOn(int cell, int hour) {
             return shadesIf(cell, hour, isLampLit(cell));
         }
@@ -1628,7 +1612,11 @@ public final class ShadeBeams {
             if (from < 0 || isCloudy(hour) && !lamp) {
                 return 0;
             }
-            return clearShades[from * CELLS + cell];
+            int shades = 0;
+            for (int post = 0; post < posts; post++) {
+                shades |= (int) (clearShadow[from * POSTS + post] >> cell & 1) << post;
+            }
+            return shades;
         }
 
         int borneOn(int cell, int hour) {
@@ -1652,8 +1640,8 @@ public final class ShadeBeams {
         private int tallest(int shades) {
             int tall = 0;
             for (int post = 0; post < posts; post++) {
-                if ((shades >> post & 1) == 1) {
-                    tall = Math.max(tall, postHigh[post]);
+                if ((shades >> post & 1) == 1 && postHigh[post] > tall) {
+                    tall = postHigh[post];
                 }
             }
             return tall;
@@ -1743,7 +1731,11 @@ public final class ShadeBeams {
         /** One pass is enough: a fall only takes weight away, so no beam passed over is too heavy later. */
         private void dropBeams(Ground ground, Beams beams, int hour) {
             for (int b = 0; b < beams.number; b++) {
-                if (place[b] != NONE && isTooHeavy(ground, beams, b, hour)) {
+                int left = place[b];
+                int right = beams.rightEnd(b, left);
+                if (left >= 0 && right < CELLS
+                        && (rest[left] > ground.borneOn(left, hour) * UNIT
+                        || rest[right] > ground.borneOn(right, hour) * UNIT)) {
                     addWeight(beams, b, -1);
                     place[b] = NONE;
                     fallHour[b] = hour;
@@ -1752,14 +1744,6 @@ public final class ShadeBeams {
                     fallenBits |= 1 << b;
                 }
             }
-        }
-
-        private boolean isTooHeavy(Ground ground, Beams beams, int beam, int hour) {
-            int left = place[beam];
-            int right = beams.rightEnd(beam, left);
-            return left < 0 || right >= CELLS
-                    || rest[left] > ground.borneOn(left, hour) * UNIT
-                    || rest[right] > ground.borneOn(right, hour) * UNIT;
         }
 
         int placeBehind(int beam, int hour) {
@@ -1919,7 +1903,11 @@ public final class ShadeBeams {
         private final int[] cell = new int[CELLS];
         private final long[] reached = new long[CELLS];
         private final int[] picked = new int[MORE_LAMPS];
+        private final int[] place = new int[BEAMS];
+        private final long[] rest = new long[CELLS];
         private int number;
+        private long neededLit;
+        private long neededDark;
 
         /**
          * A lamp that changes nothing, or the same as one on an earlier cell, is in no first answer:
@@ -1975,6 +1963,45 @@ public final class ShadeBeams {
                 }
             }
             return false;
+        }
+
+        /**
+         * While the watched beams lie, at least their own weight rests where they are. So each of their end cells
+         * needs a lamp, or none, in some hour, if it does not bear that otherwise: this spares most days from being
+         * gone through.
+         */
+        void demand(Ground ground, Beams beams, Lines moves, int watched) {
+            neededLit = 0;
+            neededDark = 0;
+            System.arraycopy(beams.x, 0, place, 0, BEAMS);
+            for (int hour = 0; hour < HOURS; hour++) {
+                for (int i = 0; i < moves.number; i++) {
+                    if (moves.first[i] == hour) {
+                        place[moves.second[i]] = moves.third[i];
+                    }
+                }
+                weighWatched(beams, watched);
+                for (int at = 0; at < ground.wide; at++) {
+                    if (rest[at] > 0) {
+                        neededLit |= ground.borneIf(at, hour, false) * UNIT < rest[at] ? 1L << at : 0;
+                        neededDark |= ground.borneIf(at, hour, true) * UNIT < rest[at] ? 1L << at : 0;
+                    }
+                }
+            }
+        }
+
+        private void weighWatched(Beams beams, int watched) {
+            Arrays.fill(rest, 0);
+            for (int b = 0; b < beams.number; b++) {
+                if ((watched >> b & 1) == 1) {
+                    rest[place[b]] += beams.onLeft[b];
+                    rest[beams.rightEnd(b, place[b])] += beams.onRight[b];
+                }
+            }
+        }
+
+        boolean allows(long lit) {
+            return (lit & neededLit) == neededLit && (lit & neededDark) == 0;
         }
 
         /** The cells picked as digits to the base 64. */

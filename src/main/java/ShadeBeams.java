@@ -1609,7 +1609,8 @@ public final class ShadeBeams {
 
         private int shadesIf(int cell, int hour, boolean lamp) {
             int from = shadesFrom[hour];
-            if (from < 0 || isCloudy(hour) && !lamp) {
+            boolean cloudy = (cloudHours >> hour & 1) == 1;
+            if (from < 0 || cloudy && !lamp) {
                 return 0;
             }
             int shades = 0;

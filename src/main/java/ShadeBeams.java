@@ -9,6 +9,8 @@ public final class ShadeBeams {
     private static final int DAYS = 400;
     private static final int CELLS = 40;
     private static final int POSTS = 10;
+    /** What if there were one post more: that may be on a street that tells of all it may. */
+    private static final int TRIED_POSTS = POSTS + 1;
     private static final int BEAMS = 8;
     private static final int MOONS = 3;
     private static final int LONGEST = 20;
@@ -327,8 +329,8 @@ public final class ShadeBeams {
         needWhat(what, 1);
         int best = NONE;
         int fewest = BEAMS + 1;
-        for (int cell = 0; cell < now.wide; cell++) {
-            if (canBuildOn(cell)) {
+        for (int cell = 0; cell < now.wide && now.posts < POSTS; cell++) {
+            if (!now.hasPost(cell)) {
                 goWithPost(cell, high);
                 if (trialRun.fallenNumber < fewest) {
                     fewest = trialRun.fallenNumber;
@@ -371,7 +373,7 @@ public final class ShadeBeams {
         int number = 0;
         int first = NONE;
         for (int cell = 0; cell < now.wide; cell++) {
-            if (canBuildOn(cell)) {
+            if (!now.hasPost(cell)) {
                 goWithPost(cell, high);
                 if (rightLines(trialRun) == bookLines.number) {
                     number++;
@@ -385,10 +387,6 @@ public final class ShadeBeams {
     public int right() {
         refresh();
         return rightLines(run);
-    }
-
-    private boolean canBuildOn(int cell) {
-        return now.posts < POSTS && !now.hasPost(cell);
     }
 
     private void goWithPost(int cell, int high) {
@@ -1498,12 +1496,12 @@ public final class ShadeBeams {
 
     /** Light, shadows and what cells bear in the hours of one day. */
     private static final class Ground {
-        private final int[] postX = new int[POSTS];
-        private final int[] postHigh = new int[POSTS];
+        private final int[] postX = new int[TRIED_POSTS];
+        private final int[] postHigh = new int[TRIED_POSTS];
         private final int[] lightKind = new int[HOURS];
         private final int[] lightLong = new int[HOURS];
         private final int[] lightWay = new int[HOURS];
-        private final long[] clearShadow = new long[HOURS * POSTS];
+        private final long[] clearShadow = new long[HOURS * TRIED_POSTS];
         private final int[] shadesFrom = new int[HOURS];
         private final int[] known = new int[2 * HOURS * CELLS];
         private Law law;
@@ -1544,7 +1542,7 @@ public final class ShadeBeams {
         }
 
         void addPost(int x, int high) {
-            if (posts < POSTS) {
+            if (posts < TRIED_POSTS) {
                 postX[posts] = x;
                 postHigh[posts] = high;
                 postCells |= 1L << x;
@@ -1565,7 +1563,7 @@ public final class ShadeBeams {
         void settle(int clouds) {
             for (int hour = 0; hour < HOURS; hour++) {
                 for (int post = 0; post < posts; post++) {
-                    clearShadow[hour * POSTS + post] = shadowOf(post, hour);
+                    clearShadow[hour * TRIED_POSTS + post] = shadowOf(post, hour);
                 }
             }
             cover(clouds);
@@ -1615,7 +1613,7 @@ public final class ShadeBeams {
             }
             int shades = 0;
             for (int post = 0; post < posts; post++) {
-                shades |= (int) (clearShadow[from * POSTS + post] >> cell & 1) << post;
+                shades |= (int) (clearShadow[from * TRIED_POSTS + post] >> cell & 1) << post;
             }
             return shades;
         }

@@ -381,7 +381,7 @@ public final class ModelTest {
 
         int[] missing(int high) {
             int[] found = {0, -1};
-            for (int c = 0; c < wide && posts.size() < 10; c++) {
+            for (int c = 0; c < wide; c++) {
                 if (postOn(c) < 0) {
                     Model m = copy();
                     m.posts.add(new int[] {c, high});
@@ -502,7 +502,8 @@ public final class ModelTest {
             s.append(clause(r, "wide", m.wide));
         }
         int posts = Math.min(m.wide, r.nextInt(12) == 0 ? 10 : upTo(r, 6));
-        for (int i = 0; i < posts; i++) {
+        // Tries enough that a street of ten posts really has ten.
+        for (int i = 0; i < 40 && m.posts.size() < posts; i++) {
             int x = upTo(r, m.wide - 1);
             if (m.postOn(x) < 0) {
                 int[] p = {x, r.nextInt(4) == 0 ? 1 + upTo(r, 98) : 1 + upTo(r, 15)};
@@ -662,7 +663,7 @@ public final class ModelTest {
             return;
         }
         Model other = m.copy();
-        if (r.nextBoolean() && m.posts.size() < 10) {
+        if (r.nextBoolean()) {
             int c = upTo(r, m.wide - 1);
             if (m.postOn(c) < 0) {
                 other.posts.add(new int[] {c, 9});

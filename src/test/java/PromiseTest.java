@@ -531,9 +531,6 @@ public final class PromiseTest {
         due("there are 10", z.tower(9, 0), -1);
         due("there are 10", z.tower(9, 1), -1);
         argument("what ahead of that", () -> z.tower(9, 2));
-        promise = 28;
-        due("there are 10", z.missing(9, 0), 0);
-        due("there are 10", z.missing(9, 1), -1);
         promise = 26;
         due("without it one more falls", street("wide 8;post 0 5;post 3 5;beam 0 4 1;beam 3 2 1;").worth(0), 1);
         // The second post's shade bears nothing by the law where it is high: without it fewer fall.
@@ -567,6 +564,31 @@ public final class PromiseTest {
         argument("G 10", () -> x.walk(0, 0, 0, 10));
     }
 
+    /** Only what a street's text tells ends at ten posts: one that is missing may be the eleventh. */
+    private static void missingBesideTen() {
+        String ten = "post 0 1;post 1 1;post 2 1;post 3 1;post 4 1;post 5 1;post 6 1;post 7 1;post 8 1;post 9 1;";
+        ShadeBeams x = street(ten + "beam 0 12 1;");
+        due("an empty book is right by all", x.missing(9, 0), 10);
+        due("the first", x.missing(9, 1), 10);
+        book(x, "0 24;");
+        due("the beam stands by 11 alone", x.missing(9, 0), 1);
+        due("the first", x.missing(9, 1), 11);
+        due("ten are told yet", x.told(1), 10);
+        due("no tower more", x.tower(9, 0), -1);
+        // All eleven shades lie on 12, if the eleventh is 2 high on 10 or 1 high on 11: the law asks for them.
+        ShadeBeams y = street("wide 13;post 0 12;post 1 12;post 2 12;post 3 12;post 4 12;post 5 12;post 6 12;post 7 12;"
+                + "post 8 12;post 9 12;sun 0 1 10;beam 9 4 1;");
+        law(y, "(shades - 10) * 9");
+        book(y, "0 24;");
+        due("by shades of 10 and 11, and a post on 12", y.missing(2, 0), 3);
+        due("by 10 first", y.missing(2, 1), 10);
+        due("by 11 and 12", y.missing(1, 0), 2);
+        due("by 11 first", y.missing(1, 1), 11);
+        ShadeBeams z = street("wide 10;" + ten);
+        due("a post on each cell", z.missing(9, 0), 0);
+        due("a post on each cell", z.missing(9, 1), -1);
+    }
+
     private static void missingPosts() {
         promise = 28;
         ShadeBeams x = street("wide 8;post 0 5;beam 0 4 1;beam 5 3 1;");
@@ -581,6 +603,7 @@ public final class PromiseTest {
         argument("H 0", () -> x.missing(0, 0));
         argument("H 100", () -> x.missing(100, 0));
         argument("what 2", () -> x.missing(1, 2));
+        missingBesideTen();
         promise = 29;
         book(x, "0 0;1 0;0 0;");
         due("all", x.right(), 3);

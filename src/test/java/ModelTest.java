@@ -501,7 +501,7 @@ public final class ModelTest {
             m.wide = 4 + upTo(r, widest - 4);
             s.append(clause(r, "wide", m.wide));
         }
-        int posts = Math.min(m.wide, r.nextInt(12) == 0 ? 10 : upTo(r, 6));
+        int posts = Math.min(m.wide, r.nextInt(5) == 0 ? 10 : upTo(r, 6));
         // Tries enough that a street of ten posts really has ten.
         for (int i = 0; i < 40 && m.posts.size() < posts; i++) {
             int x = upTo(r, m.wide - 1);
@@ -1030,6 +1030,66 @@ public final class ModelTest {
 
     private static final int[] lampsNeeded = new int[5];
 
+    /** A street with all the posts that can be told, where a book asks for an eleventh. */
+    private static void tenPostStreet(int seed) {
+        where = "street of ten posts " + seed;
+        Random r = new Random(seed);
+        ShadeBeams x = new ShadeBeams();
+        Model m = new Model();
+        m.wide = 16 + upTo(r, 8);
+        StringBuilder s = new StringBuilder(clause(r, "wide", m.wide));
+        for (int i = 0; i < 400 && m.posts.size() < 10; i++) {
+            int[] p = {upTo(r, m.wide - 1), 1 + upTo(r, 2)};
+            if (m.postOn(p[0]) < 0) {
+                m.posts.add(p);
+                s.append(clause(r, "post", p));
+            }
+        }
+        int[] sun = {upTo(r, 3), upTo(r, 1), 10};
+        m.suns.add(sun);
+        s.append(clause(r, "sun", sun));
+        for (int i = 1 + upTo(r, 2); i > 0; i--) {
+            Beam b = new Beam();
+            b.x = upTo(r, m.wide - 4);
+            b.l = 2 + upTo(r, Math.min(6, m.wide - b.x - 2));
+            b.m = 1 + upTo(r, 8);
+            b.loads = new int[b.l];
+            m.beams.add(b);
+            s.append(clause(r, "beam", b.x, b.l, b.m));
+        }
+        feed(x, s.toString());
+        due("street " + s, x.street(s.length()), m.beams.size());
+        int high = 1 + upTo(r, 2);
+        bookOfElevenPosts(r, x, m, high);
+        int[] found = m.missing(high);
+        due("missing " + high, x.missing(high, 0), found[0]);
+        due("missing 1 " + high, x.missing(high, 1), found[1]);
+        due("no tower", x.tower(high, 0), -1);
+        eleventhsAsked += found[0] > 0 && m.right() < m.book.size() ? 1 : 0;
+    }
+
+    private static void bookOfElevenPosts(Random r, ShadeBeams x, Model m, int high) {
+        Model other = m.copy();
+        for (int i = 0; i < 400 && other.posts.size() < 11; i++) {
+            int c = upTo(r, m.wide - 1);
+            if (m.postOn(c) < 0) {
+                other.posts.add(new int[] {c, high});
+            }
+        }
+        Fallen f = other.go();
+        StringBuilder s = new StringBuilder();
+        for (int b = 0; b < m.beams.size(); b++) {
+            int h = f.hour[b] < 0 ? 24 : f.hour[b];
+            m.book.add(new int[] {b, h});
+            s.append(gap(r)).append(b).append(' ').append(h).append(';');
+        }
+        feed(x, s.toString());
+        due("book " + s, x.book(s.length()), m.book.size());
+    }
+
+    /** On how many streets the book is right by an eleventh post, and not without. */
+    private static int eleventhsAsked;
+
     public static void main(String[] args) {
         int first = args.length > 0 ? Integer.parseInt(args[0]) : 1;
         int many = args.length > 1 ? Integer.parseInt(args[1]) : 60;
@@ -1042,6 +1102,10 @@ public final class ModelTest {
         for (int lamps = 0; lamps <= 4; lamps++) {
             due("streets of each kind", lampsNeeded[lamps] > 0 ? 1 : 0, 1);
         }
+        for (int seed = first; seed < first + 5 * many; seed++) {
+            tenPostStreet(seed);
+        }
+        due("streets that an eleventh post sets right", eleventhsAsked > 0 ? 1 : 0, 1);
         System.out.println("ModelTest: " + asked + " answers, " + wrong + " not as due");
         if (wrong != 0) {
             System.exit(1);

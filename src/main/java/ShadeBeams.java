@@ -945,7 +945,7 @@ public final class ShadeBeams {
             }
             skipBlanks();
             int value = 0;
-            while (isAt('0', '9')) {
+            while (at < end && isAt('0', '9')) {
                 value = Math.min(value * 10 + bytes[at] - '0', MORE_THAN_ALL);
                 at++;
             }
@@ -965,7 +965,7 @@ public final class ShadeBeams {
                 return;
             }
             skipBlanks();
-            while (isAt('a', 'z')) {
+            while (at < end && isAt('a', 'z')) {
                 at++;
             }
         }

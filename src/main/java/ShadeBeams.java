@@ -298,30 +298,32 @@ public final class ShadeBeams {
         lamplighter.gather(trialGround, now.beams, moveLines, reach);
         lamplighter.demand(trialGround, now.beams, moveLines, beams);
         for (int more = 0; more <= MORE_LAMPS; more++) {
-            if (findLamps(beams, more, 0, 0, now.lampCells)) {
+            if (findLamps(beams, more)) {
                 return what == 0 ? more : lamplighter.digits(more);
             }
         }
         return NONE;
     }
 
-    /** Goes at most MORE_LAMPS deep: one level for each lamp that is still to be put. */
-    private boolean findLamps(int beams, int more, int put, int first, long lit) {
-        if (put >= more || put >= MORE_LAMPS) {
-            if (!lamplighter.allows(lit)) {
-                return false;
-            }
-            trialGround.lampCells = lit;
-            trialRun.go(trialGround, now.beams, moveLines, beams);
-            return (trialRun.fallenBits & beams) == 0;
-        }
-        for (int i = first; i < lamplighter.number; i++) {
-            lamplighter.picked[put] = lamplighter.cell[i];
-            if (findLamps(beams, more, put + 1, i + 1, lit | lamplighter.reached[i])) {
+    /** Goes through all ways to put so many lamps more, by rising cells, up to the first that keeps the beams up. */
+    private boolean findLamps(int beams, int more) {
+        boolean picked = lamplighter.pickFirst(more);
+        for (int tried = 0; picked && tried < MORE_THAN_ALL; tried++) {
+            if (keepsUp(beams, lamplighter.litBy(more, now.lampCells))) {
                 return true;
             }
+            picked = lamplighter.pickNext(more);
         }
         return false;
+    }
+
+    private boolean keepsUp(int beams, long lit) {
+        if (!lamplighter.allows(lit)) {
+            return false;
+        }
+        trialGround.lampCells = lit;
+        trialRun.go(trialGround, now.beams, moveLines, beams);
+        return (trialRun.fallenBits & beams) == 0;
     }
 
     public int tower(int high, int what) throws IllegalArgumentException {
@@ -2003,13 +2005,50 @@ public final class ShadeBeams {
             return (lit & neededLit) == neededLit && (lit & neededDark) == 0;
         }
 
+        /** Picks are places in the row of cells, rising; false, if there are fewer cells than lamps. */
+        boolean pickFirst(int lamps) {
+            for (int i = 0; i < MORE_LAMPS; i++) {
+                picked[i] = i;
+            }
+            return lamps <= number && lamps <= MORE_LAMPS;
+        }
+
+        /** The next pick, cell by cell; false behind the last one. */
+        boolean pickNext(int lamps) {
+            int moved = Math.min(lamps, MORE_LAMPS) - 1;
+            while (moved >= 0 && picked[moved] >= number - lamps + moved) {
+                moved--;
+            }
+            if (moved < 0) {
+                return false;
+            }
+            picked[moved]++;
+            for (int i = moved + 1; i < MORE_LAMPS; i++) {
+                picked[i] = picked[i - 1] + 1;
+            }
+            return true;
+        }
+
+        /** The cells that are lit by the lamps told and those picked. */
+        long litBy(int lamps, long told) {
+            long lit = told;
+            for (int i = 0; i < lamps && i < MORE_LAMPS; i++) {
+                lit |= isPicked(i) ? reached[picked[i]] : 0;
+            }
+            return lit;
+        }
+
         /** The cells picked as digits to the base 64. */
         int digits(int lamps) {
             int all = 0;
             for (int i = 0; i < lamps && i < MORE_LAMPS; i++) {
-                all = all * 64 + picked[i];
+                all = all * 64 + (isPicked(i) ? cell[picked[i]] : 0);
             }
             return all;
+        }
+
+        private boolean isPicked(int i) {
+            return isWithin(picked[i], 0, number - 1);
         }
     }
 }

@@ -103,6 +103,7 @@ public final class FaceTest {
     private static void source() throws IOException {
         List<String> lines = Files.readAllLines(Path.of("src/main/java/ShadeBeams.java"));
         int methodFrom = 0;
+        String method = "";
         for (int i = 0; i < lines.size(); i++) {
             String line = lines.get(i);
             String code = line.replaceAll("\"[^\"]*\"", "\"\"").replaceAll("//.*", "").replaceAll("^\\s*/?\\*.*", "");
@@ -115,14 +116,26 @@ public final class FaceTest {
             if (code.startsWith("import ")) {
                 due(code.equals("import java.util.Arrays;") || code.equals("import java.util.NoSuchElementException;"), "line " + (i + 1) + " imports");
             }
-            if (code.matches("( {4}| {8})\\S.*\\{") && code.contains("(")) {
+            if (code.matches("( {4}| {8})(?!if |for |while |switch |do |\\})\\S.*\\{") && code.contains("(")) {
                 methodFrom = i;
+                method = code.replaceAll("\\(.*", "").replaceAll(".*\\W", "");
+            } else {
+                due(!callsItself(code, method), "line " + (i + 1) + ": " + method + " calls itself");
             }
-            if (code.matches(" {4}\\}| {8}\\}")) {
+            if (code.matches(" {4}\\}| {8}\\}") && code.indexOf('}') == indent(lines.get(methodFrom))) {
                 due(i - methodFrom <= 60, "the method from line " + (methodFrom + 1) + " on is long");
-                methodFrom = i;
+                method = "";
             }
         }
+    }
+
+    private static int indent(String line) {
+        return line.length() - line.stripLeading().length();
+    }
+
+    /** Rule 8 lets private static methods do so alone; the class has none that needs it. */
+    private static boolean callsItself(String code, String method) {
+        return !method.isEmpty() && code.matches(".*(?<![.\\w])" + java.util.regex.Pattern.quote(method) + "\\(.*");
     }
 
     public static void main(String[] args) throws IOException {
